@@ -1,0 +1,239 @@
+/** Promises 18 to 22: append, clearText, fault, run and undo. */
+public final class TextHistoryTest {
+    private static final Check CHECK = new Check("TextHistoryTest");
+
+    public static void main(String[] args) {
+        promise18Append();
+        promise19ClearText();
+        promise20FaultOfWholeTexts();
+        promise20FaultOfOtherTexts();
+        promise20FaultOfNumbers();
+        promise20FaultIgnoresTheRoom();
+        promise21RunEachOperation();
+        promise21RunEnds();
+        promise21RunErrors();
+        promise22Undo();
+        promise22UndoRestoresAll();
+        promise22TextIsNoState();
+        CHECK.finish();
+    }
+
+    private static void promise18Append() {
+        PoisonedMemory x = new PoisonedMemory();
+        CHECK.due("31", x.append(31), Check.BAD_VALUE);
+        CHECK.due("127", x.append(127), Check.BAD_VALUE);
+        CHECK.due("-1", x.append(-1), Check.BAD_VALUE);
+        CHECK.due("a character's number plus 65536", x.append(65536 + 'O'), Check.BAD_VALUE);
+        CHECK.due("32", x.append(32), 1);
+        CHECK.due("126", x.append(126), 2);
+        for (int i = 3; i <= 90; i++) {
+            CHECK.due("append", x.append('L'), i);
+        }
+        CHECK.due("BAD_VALUE comes first", x.append(31), Check.BAD_VALUE);
+        CHECK.due("full", x.append('L'), Check.TOO_MANY);
+        CHECK.due("length", x.clearText(), 90);
+        CHECK.due("no action", x.undo(), Check.NONE);
+    }
+
+    private static void promise19ClearText() {
+        PoisonedMemory x = new PoisonedMemory();
+        CHECK.due("empty", x.clearText(), 0);
+        Check.type(x, "O00");
+        CHECK.due("three", x.clearText(), 3);
+        CHECK.due("empty again", x.clearText(), 0);
+        CHECK.due("fault of the empty text", x.fault(), 0);
+        CHECK.due("append", x.append('I'), 1);
+        CHECK.due("no action", x.undo(), Check.NONE);
+    }
+
+    private static int faultOf(String text) {
+        PoisonedMemory x = new PoisonedMemory();
+        Check.type(x, text);
+        return x.fault();
+    }
+
+    private static void promise20FaultOfWholeTexts() {
+        String[] texts = {
+            "L00,0", "L33,31", "S12,9", "M333", "A33333", "A00000", "O33", "I0", "I31", "V00=0", "V33=65535",
+            "L00,1;S00,2;M012;A10123;O00;I3;V01=10", "I1;I2;I3;I4"
+        };
+        for (String text : texts) {
+            CHECK.due(text, faultOf(text), Check.NONE);
+        }
+    }
+
+    private static void promise20FaultOfOtherTexts() {
+        String[] texts = {
+            "", "l", " ", ";", "0", "X00", "L", "L4", "L0", "L04", "L00", "L00;", "L00=1", "L00,", "L00,;", "L00,x",
+            "L00,1;", "L00,1 ", "L00,1;;", "L00,1;L", "L00,1,", "M00", "M004", "M0000", "A0000", "A04000", "A00000,",
+            "A000000", "O0", "O04", "O000", "I", "I-1", "I0;", "V00", "V00,1", "V00=", "V00=-", "V4", "V04", "S00=1"
+        };
+        int[] faults = {
+            0, 0, 0, 0, 0, 0, 1, 1, 2, 2, 3, 3, 3, 4, 4, 4,
+            6, 5, 6, 7, 5, 3, 3, 4, 5, 2, 6,
+            6, 2, 2, 3, 1, 1, 3, 3, 3, 4, 4, 1, 2, 3
+        };
+        for (int i = 0; i < texts.length; i++) {
+            CHECK.due(texts[i], faultOf(texts[i]), faults[i]);
+        }
+        CHECK.due("as many faults as texts", faults.length, texts.length);
+    }
+
+    private static void promise20FaultOfNumbers() {
+        CHECK.due("I00", faultOf("I00"), 2);
+        CHECK.due("I01", faultOf("I01"), 2);
+        CHECK.due("I32", faultOf("I32"), 2);
+        CHECK.due("I40", faultOf("I40"), 2);
+        CHECK.due("I100", faultOf("I100"), 3);
+        CHECK.due("I29;I3", faultOf("I29;I3"), Check.NONE);
+        CHECK.due("V00=00", faultOf("V00=00"), 5);
+        CHECK.due("V00=05", faultOf("V00=05"), 5);
+        CHECK.due("V00=65536", faultOf("V00=65536"), 8);
+        CHECK.due("V00=65540", faultOf("V00=65540"), 8);
+        CHECK.due("V00=70000", faultOf("V00=70000"), 8);
+        CHECK.due("V00=6553", faultOf("V00=6553"), Check.NONE);
+        CHECK.due("V00=100000", faultOf("V00=100000"), 9);
+        CHECK.due("V00=65535;V00=65536", faultOf("V00=65535;V00=65536"), 18);
+    }
+
+    private static void promise20FaultIgnoresTheRoom() {
+        StringBuilder text = new StringBuilder();
+        for (int i = 0; i < 29; i++) {
+            text.append("I0;");
+        }
+        text.append("I0");
+        CHECK.due("89 characters", faultOf(text.toString()), Check.NONE);
+        text.append(";");
+        CHECK.due("90 characters, not complete", faultOf(text.toString()), 90);
+        text.setCharAt(89, 'x');
+        CHECK.due("90 characters, the last one wrong", faultOf(text.toString()), 89);
+    }
+
+    private static void promise21RunEachOperation() {
+        PoisonedMemory x = new PoisonedMemory();
+        x.fill(5, 1, 42);
+        x.setMode(1, Check.SKIP);
+        Check.type(x, "I5;L12,5;S12,31;M132;O13;V10=65535;V11=2;A13110");
+        CHECK.due("run", x.run(), 8);
+        CHECK.due("inject", x.origin(5), 0);
+        CHECK.due("load", x.registerHops(1, 2), 1);
+        CHECK.due("load", x.register(1, 2), 42);
+        CHECK.due("store", x.hops(31), 2);
+        CHECK.due("move", x.registerHops(1, 3), 2);
+        CHECK.due("output", x.faults(), 1);
+        CHECK.due("output", x.log(0, 1), 3);
+        CHECK.due("setRegister", x.register(1, 0), 65535);
+        CHECK.due("compute", x.register(1, 1), 65534);
+        CHECK.due("one state of run", x.undo(), 2);
+        CHECK.due("all undone", x.injections(), 0);
+        CHECK.due("all undone", x.faults(), 0);
+        CHECK.due("all undone", x.register(1, 0), 0);
+        CHECK.due("the text stays", x.fault(), Check.NONE);
+        CHECK.due("difference of first and second", runOf("V00=7;V01=5;A01201", 2), 2);
+        CHECK.due("the target of move comes first", runOf("V00=7;M010", 1), 7);
+        CHECK.due("the last of five registers", runOf("V00=7;V03=9;A00203", 2), 16);
+    }
+
+    private static int runOf(String text, int register) {
+        PoisonedMemory x = new PoisonedMemory();
+        Check.type(x, text);
+        x.run();
+        return x.register(0, register);
+    }
+
+    private static void promise21RunEnds() {
+        PoisonedMemory x = new PoisonedMemory();
+        Check.type(x, "I1;L00,1;O00;I2;L00,2;I3");
+        CHECK.due("up to the stopped task", x.run(), 4);
+        CHECK.due("nothing after it", x.injections(), 2);
+        Check.type(x, "L00,1;I3");
+        CHECK.due("the first one", x.run(), 0);
+        CHECK.due("nothing done", x.injections(), 2);
+        CHECK.due("but recorded", x.undo(), 1);
+        Check.type(x, "I0;I0;I0;I0;I0;I0;I0;I0;I0;I0;I0;I0;I0;I0;I0;I0;I0;I0;I0;V10=3");
+        CHECK.due("TOO_MANY ends it", x.run(), 18);
+        CHECK.due("injections", x.injections(), 20);
+        CHECK.due("nothing after it", x.register(1, 0), 0);
+    }
+
+    private static void promise21RunErrors() {
+        PoisonedMemory x = new PoisonedMemory();
+        CHECK.due("empty", x.run(), Check.BAD_TEXT);
+        Check.type(x, "I1;");
+        CHECK.due("not complete", x.run(), Check.BAD_TEXT);
+        CHECK.due("nothing done", x.injections(), 0);
+        Check.type(x, "I1;I32");
+        CHECK.due("fault", x.run(), Check.BAD_TEXT);
+        CHECK.due("nothing done", x.injections(), 0);
+        CHECK.due("nothing recorded", x.undo(), Check.NONE);
+        Check.type(x, "I1");
+        CHECK.due("again", x.run(), 1);
+        CHECK.due("and again", x.run(), 1);
+        CHECK.due("injections", x.injections(), 2);
+    }
+
+    private static void promise22Undo() {
+        PoisonedMemory x = new PoisonedMemory();
+        CHECK.due("empty history", x.undo(), Check.NONE);
+        for (int i = 1; i <= 6; i++) {
+            x.setRegister(0, 0, i);
+        }
+        x.setRegister(0, 0, -1);
+        for (int left = 3; left >= 0; left--) {
+            CHECK.due("undo", x.undo(), left);
+            CHECK.due("register", x.register(0, 0), left + 2);
+        }
+        CHECK.due("no fifth", x.undo(), Check.NONE);
+        CHECK.due("register", x.register(0, 0), 2);
+        x.setRegister(0, 0, 2);
+        CHECK.due("an action that changes nothing", x.undo(), 0);
+        for (int i = 3; i <= 5; i++) {
+            x.setRegister(0, 0, i);
+        }
+        x.undo();
+        x.setRegister(0, 0, 9);
+        CHECK.due("after undo", x.undo(), 2);
+        CHECK.due("register", x.register(0, 0), 4);
+    }
+
+    private static void promise22UndoRestoresAll() {
+        PoisonedMemory x = new PoisonedMemory();
+        x.fill(0, 4, 3);
+        x.setMirror(0, true);
+        x.inject(1);
+        x.setMode(2, Check.SKIP);
+        x.load(3, 0, 1);
+        x.restart(3);
+        x.inject(9);
+        Check.type(x, "I1;L00,9;S00,2;S00,3;L20,9;O20;O00");
+        x.run();
+        CHECK.due("healed by load", x.healed(), 1);
+        CHECK.due("stopped", x.stopped(0), 1);
+        CHECK.due("faults", x.faults(), 2);
+        CHECK.due("undo", x.undo(), 3);
+        CHECK.due("words", x.origin(2), Check.NONE);
+        CHECK.due("words", x.value(2), 3);
+        CHECK.due("second copies", x.mirrorValue(3), 3);
+        CHECK.due("second copies", x.mirrorOrigin(3), Check.NONE);
+        CHECK.due("registers", x.registerOrigin(0, 0), Check.NONE);
+        CHECK.due("tasks", x.stopped(0), 0);
+        CHECK.due("log", x.log(0, 0), Check.NONE);
+        CHECK.due("injections", x.injections(), 2);
+        CHECK.due("an origin of its own", x.source(1), 9);
+        x.setMirror(0, false);
+        x.setMode(2, Check.ZERO);
+        CHECK.due("undo the mode", x.undo(), 3);
+        CHECK.due("mode", x.mode(2), 1);
+        CHECK.due("undo the mirror", x.undo(), 2);
+        CHECK.due("pages", x.mirrorValue(1), 3);
+    }
+
+    private static void promise22TextIsNoState() {
+        PoisonedMemory x = new PoisonedMemory();
+        x.inject(3);
+        Check.type(x, "I4");
+        x.undo();
+        CHECK.due("the text stays", x.clearText(), 2);
+        CHECK.due("undo is not undone", x.undo(), Check.NONE);
+    }
+}
