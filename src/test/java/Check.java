@@ -58,6 +58,31 @@ final class Check {
         memory.load(task, register, word);
     }
 
+    /** The answers of all questions about the state; texts and history have no part in it. */
+    static String stateOf(PoisonedMemory memory) {
+        StringBuilder state = new StringBuilder();
+        for (int word = 0; word < 32; word++) {
+            state.append(memory.value(word)).append(' ').append(memory.origin(word)).append(' ');
+            state.append(memory.hops(word)).append(' ').append(memory.mirrorValue(word)).append(' ');
+            state.append(memory.mirrorOrigin(word)).append(' ').append(memory.source(word)).append('\n');
+        }
+        for (int task = 0; task < 4; task++) {
+            state.append(memory.mode(task)).append(' ').append(memory.stopped(task)).append(' ');
+            for (int register = 0; register < 4; register++) {
+                state.append(memory.register(task, register)).append(' ');
+                state.append(memory.registerOrigin(task, register)).append(' ');
+                state.append(memory.registerHops(task, register)).append('\n');
+            }
+        }
+        for (int ago = 0; ago < 9; ago++) {
+            for (int part = 0; part < 4; part++) {
+                state.append(memory.log(ago, part)).append(' ');
+            }
+        }
+        state.append(memory.injections()).append(' ').append(memory.faults()).append(' ').append(memory.healed());
+        return state.toString();
+    }
+
     static void stop(PoisonedMemory memory, int task) {
         poisonRegister(memory, task, 0, 0);
         memory.output(task, 0);

@@ -176,7 +176,10 @@ public final class MemoryActionsTest {
         CHECK.due("from 32", x.copyBlock(32, 0, 1), Check.NO_SUCH);
         CHECK.due("to -1", x.copyBlock(0, -1, 1), Check.NO_SUCH);
         CHECK.due("to 32", x.copyBlock(0, 32, 1), Check.NO_SUCH);
+        CHECK.due("from -1, two words", x.copyBlock(-1, 0, 2), Check.NO_SUCH);
+        CHECK.due("to -1, two words", x.copyBlock(0, -1, 2), Check.NO_SUCH);
         CHECK.due("NO_SUCH before BAD_VALUE", x.copyBlock(0, 32, 0), Check.NO_SUCH);
+        CHECK.due("NO_SUCH before BAD_VALUE", x.copyBlock(32, 0, 0), Check.NO_SUCH);
         CHECK.due("words 0", x.copyBlock(0, 0, 0), Check.BAD_VALUE);
         CHECK.due("words 17", x.copyBlock(0, 0, 17), Check.BAD_VALUE);
         CHECK.due("words least", x.copyBlock(0, 0, Integer.MIN_VALUE), Check.BAD_VALUE);

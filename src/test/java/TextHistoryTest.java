@@ -9,11 +9,15 @@ public final class TextHistoryTest {
         promise20FaultOfOtherTexts();
         promise20FaultOfNumbers();
         promise20FaultIgnoresTheRoom();
+        promise20FaultForgetsTheTextBefore();
+        promise20FaultAtTheLastPlace();
         promise21RunEachOperation();
         promise21RunEnds();
         promise21RunErrors();
         promise22Undo();
         promise22UndoRestoresAll();
+        promise22UndoEachAction();
+        promise22UndoRestoresMarksInside();
         promise22TextIsNoState();
         CHECK.finish();
     }
@@ -66,12 +70,14 @@ public final class TextHistoryTest {
         String[] texts = {
             "", "l", " ", ";", "0", "X00", "L", "L4", "L0", "L04", "L00", "L00;", "L00=1", "L00,", "L00,;", "L00,x",
             "L00,1;", "L00,1 ", "L00,1;;", "L00,1;L", "L00,1,", "M00", "M004", "M0000", "A0000", "A04000", "A00000,",
-            "A000000", "O0", "O04", "O000", "I", "I-1", "I0;", "V00", "V00,1", "V00=", "V00=-", "V4", "V04", "S00=1"
+            "A000000", "O0", "O04", "O000", "I", "I-1", "I0;", "V00", "V00,1", "V00=", "V00=-", "V4", "V04", "S00=1",
+            "L001", "S331", "V001", "O00O00", "I1I2", "M000M000", "i1", "M 00", "O+1"
         };
         int[] faults = {
             0, 0, 0, 0, 0, 0, 1, 1, 2, 2, 3, 3, 3, 4, 4, 4,
             6, 5, 6, 7, 5, 3, 3, 4, 5, 2, 6,
-            6, 2, 2, 3, 1, 1, 3, 3, 3, 4, 4, 1, 2, 3
+            6, 2, 2, 3, 1, 1, 3, 3, 3, 4, 4, 1, 2, 3,
+            3, 3, 3, 3, 2, 4, 0, 1, 1
         };
         for (int i = 0; i < texts.length; i++) {
             CHECK.due(texts[i], faultOf(texts[i]), faults[i]);
@@ -107,6 +113,35 @@ public final class TextHistoryTest {
         CHECK.due("90 characters, not complete", faultOf(text.toString()), 90);
         text.setCharAt(89, 'x');
         CHECK.due("90 characters, the last one wrong", faultOf(text.toString()), 89);
+    }
+
+    private static void promise20FaultForgetsTheTextBefore() {
+        PoisonedMemory x = new PoisonedMemory();
+        Check.type(x, "V00=65535;I31");
+        Check.type(x, "V00");
+        CHECK.due("a sign was there before", x.fault(), 3);
+        Check.type(x, "V0");
+        CHECK.due("a digit was there before", x.fault(), 2);
+        Check.type(x, "V00=6553");
+        CHECK.due("one digit less", x.fault(), Check.NONE);
+        x.run();
+        CHECK.due("value", x.register(0, 0), 6553);
+        Check.type(x, "");
+        CHECK.due("a letter was there before", x.fault(), 0);
+    }
+
+    private static void promise20FaultAtTheLastPlace() {
+        String[] endings = {"L", "L0", "L00", "L00,", "L00,3", "V00=", "V00=6553", "M000", "A0000", "I3;", "I"};
+        for (String ending : endings) {
+            StringBuilder text = new StringBuilder();
+            int room = 90 - ending.length();
+            while (text.length() < room) {
+                text.append((room - text.length()) % 3 == 0 ? "I0;" : "I10;");
+            }
+            boolean isWhole = ending.equals("L00,3") || ending.equals("V00=6553") || ending.equals("M000");
+            CHECK.due("length before " + ending, text.length(), room);
+            CHECK.due("90 characters with " + ending, faultOf(text + ending), isWhole ? Check.NONE : 90);
+        }
     }
 
     private static void promise21RunEachOperation() {
@@ -226,6 +261,72 @@ public final class TextHistoryTest {
         CHECK.due("mode", x.mode(2), 1);
         CHECK.due("undo the mirror", x.undo(), 2);
         CHECK.due("pages", x.mirrorValue(1), 3);
+    }
+
+    private static void promise22UndoEachAction() {
+        int actions = 17;
+        for (int action = 0; action < actions; action++) {
+            PoisonedMemory x = new PoisonedMemory();
+            x.fill(4, 4, 700);
+            x.setMirror(1, true);
+            x.setMode(1, Check.SKIP);
+            Check.poisonRegister(x, 0, 1, 9);
+            Check.poisonRegister(x, 1, 1, 10);
+            x.store(1, 1, 11);
+            x.inject(4);
+            Check.type(x, "V00=8;I3");
+            String before = Check.stateOf(x);
+            CHECK.due("action " + action + " is no error", act(x, action), DUE[action]);
+            CHECK.due("action " + action + " changes the state", Check.stateOf(x).equals(before) ? 1 : 0, 0);
+            CHECK.due("undo of action " + action, x.undo(), 3);
+            CHECK.due("undo restores action " + action, Check.stateOf(x).equals(before) ? 1 : 0, 1);
+        }
+    }
+
+    private static final int[] DUE = {3, 1, 1, 0, 1, 0, 1, 0, 0, 188, 1, 1, 0, 0, Check.FAULT, Check.FAULT, 2};
+
+    private static int act(PoisonedMemory x, int action) {
+        switch (action) {
+            case 0: return x.inject(30);
+            case 1: return x.copyBlock(4, 10, 2) + 1;
+            case 2: return x.fill(4, 1, 700);
+            case 3: return x.setMirror(1, false);
+            case 4: return x.scrub(1);
+            case 5: return x.setMode(0, Check.ZERO);
+            case 6: return x.restart(1);
+            case 7: return x.setRegister(0, 1, 6);
+            case 8: return x.load(0, 2, 9);
+            case 9: return x.loadByte(0, 2, 4, 0);
+            case 10: return x.store(0, 1, 4);
+            case 11: return x.storeByte(0, 1, 4, 0);
+            case 12: return x.move(0, 3, 1);
+            case 13: return x.compute(0, 2, 1, 1, 1);
+            case 14: return x.loadAt(0, 3, 1);
+            case 15: return x.output(0, 1);
+            default: return x.run();
+        }
+    }
+
+    private static void promise22UndoRestoresMarksInside() {
+        PoisonedMemory x = new PoisonedMemory();
+        x.inject(5);
+        x.inject(6);
+        x.undo();
+        x.inject(7);
+        CHECK.due("the number is given anew", x.source(1), 7);
+        x.undo();
+        CHECK.due("the word of the first", x.origin(5), 0);
+        CHECK.due("its source", x.source(0), 5);
+        x.copyBlock(5, 5, 1);
+        x.copyBlock(5, 5, 1);
+        x.undo();
+        CHECK.due("hops", x.hops(5), 1);
+        x.undo();
+        CHECK.due("hops", x.hops(5), 0);
+        x.load(0, 0, 5);
+        x.move(0, 0, 0);
+        x.undo();
+        CHECK.due("hops of a register", x.registerHops(0, 0), 1);
     }
 
     private static void promise22TextIsNoState() {
