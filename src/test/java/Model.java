@@ -1,5 +1,6 @@
 import java.util.ArrayDeque;
 import java.util.ArrayList;
+import java.util.Arrays;
 import java.util.Deque;
 import java.util.List;
 import java.util.regex.Pattern;
@@ -73,7 +74,7 @@ final class Model {
             now.words[word] = Cell.EMPTY;
         }
         for (Cell[] row : now.registers) {
-            java.util.Arrays.fill(row, Cell.EMPTY);
+            Arrays.fill(row, Cell.EMPTY);
         }
     }
 
@@ -185,7 +186,7 @@ final class Model {
             if (answer < 0 && answer >= -5) {
                 return Check.NONE;
             }
-            if (!java.util.Arrays.equals(before, s.stopped)) {
+            if (!Arrays.equals(before, s.stopped)) {
                 return i;
             }
         }
