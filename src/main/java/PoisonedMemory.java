@@ -532,13 +532,20 @@ public final class PoisonedMemory {
             words.become(other.words);
             seconds.become(other.seconds);
             registers.become(other.registers);
-            System.arraycopy(other.mirrored, 0, mirrored, 0, PAGES);
             System.arraycopy(other.modes, 0, modes, 0, TASKS);
-            System.arraycopy(other.stopped, 0, stopped, 0, TASKS);
             System.arraycopy(other.sources, 0, sources, 0, MAX_INJECTIONS);
+            copyFlags(other.mirrored, mirrored);
+            copyFlags(other.stopped, stopped);
             faultLog.become(other.faultLog);
             injections = other.injections;
             healed = other.healed;
+        }
+
+        /** LANGUAGE.md names arrays of numbers alone for System.arraycopy. */
+        private static void copyFlags(boolean[] from, boolean[] to) {
+            for (int i = 0; i < from.length && i < to.length; i++) {
+                to[i] = from[i];
+            }
         }
 
         // -- memory

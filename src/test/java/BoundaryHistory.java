@@ -111,7 +111,31 @@ final class BoundaryHistory extends Boundary {
             restored("log", y -> y.output(2, 2), y -> y.log(0, 0), 2);
             restored("faults", y -> y.output(2, 2), y -> y.faults(), 1);
             restored("healed", y -> y.scrub(0), y -> y.healed(), 1);
+            logIsRestored(x);
         });
+    }
+
+    /** What a fault moves on in the log, and the oldest one that it drops, are as they were after undo. */
+    private void logIsRestored(PoisonedMemory x) {
+        int[] first = {0, 1, 0};
+        int[] others = {2, 3, 1};
+        x.setMode(0, SKIP);
+        x.setMode(2, SKIP);
+        poisonRegister(x, 0, 1, 8);
+        poisonRegister(x, 2, 3, 9);
+        for (int faults = 1; faults <= 10; faults++) {
+            int[] latest = faults == 1 ? first : others;
+            int[] undone = faults == 1 ? others : first;
+            int oldest = Math.min(faults, 8) - 1;
+            x.output(latest[0], latest[1]);
+            x.output(undone[0], undone[1]);
+            x.undo();
+            for (int part = 0; part < 3; part++) {
+                due("the latest of " + faults + ", part " + part, x.log(0, part), latest[part]);
+                due("the oldest of " + faults + ", part " + part, x.log(oldest, part), (faults <= 8 ? first : others)[part]);
+            }
+            due("no more than " + faults, x.log(oldest + 1, 0), NONE);
+        }
     }
 
     /** The action changes what the question answers to "after"; undo brings back what it answered before. */

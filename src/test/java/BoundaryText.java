@@ -94,19 +94,26 @@ final class BoundaryText extends Boundary {
         }
     }
 
+    /** No two arguments of an operation are the same, so that none can stand for another. */
     private void eachOperationIsItsMethod(PoisonedMemory x) {
         x.fill(31, 1, 9);
-        due("L00,31", runOf(x, "L00,31"), 1);
-        due("load", x.register(0, 0), 9);
-        due("S00,30", runOf(x, "S00,30"), 1);
-        due("store", x.value(30), 9);
-        due("M010", runOf(x, "M010"), 1);
-        due("move, the target", x.register(0, 1), 9);
-        due("V02=4", runOf(x, "V02=4"), 1);
-        due("setRegister", x.register(0, 2), 4);
+        due("L12,31", runOf(x, "L12,31"), 1);
+        due("load", x.register(1, 2), 9);
+        x.setRegister(2, 1, 8);
+        due("S21,30", runOf(x, "S21,30"), 1);
+        due("store", x.value(30), 8);
+        due("M012", runOf(x, "M012"), 1);
+        due("move of clean registers", x.register(0, 1), 0);
+        x.setRegister(3, 0, 5);
+        due("M310", runOf(x, "M310"), 1);
+        due("move, the target", x.register(3, 1), 5);
+        due("V23=4", runOf(x, "V23=4"), 1);
+        due("setRegister", x.register(2, 3), 4);
+        x.setRegister(1, 0, 7);
+        x.setRegister(1, 3, 2);
         for (int operator = 0; operator < 4; operator++) {
-            due("A0" + operator + "312", runOf(x, "A0" + operator + "312"), 1);
-            due("compute, operator " + operator, x.register(0, 3), new int[] {13, 5, 13, 36}[operator]);
+            due("A1" + operator + "203", runOf(x, "A1" + operator + "203"), 1);
+            due("compute, operator " + operator, x.register(1, 2), new int[] {9, 5, 5, 14}[operator]);
         }
         due("I7", runOf(x, "I7"), 1);
         due("inject", x.origin(7), 0);

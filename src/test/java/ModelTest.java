@@ -7,13 +7,16 @@ import java.util.Comparator;
 import java.util.List;
 
 /**
- * Long runs of calls, the same in each session, on the class and on the Model; after every action all questions are
- * compared. The class is called by reflection, so that no method of its face can be left out.
+ * Runs of 512 calls, the same in each session, on the class and on the Model: actions first, then questions, of which
+ * more are asked the fewer actions there were. The class is called by reflection, so that no method of its face can be
+ * left out.
  */
 public final class ModelTest {
     private static final Check CHECK = new Check("ModelTest");
-    private static final int RUNS = 240;
+    private static final int RUNS = 4000;
     private static final int CALLS = 512;
+    /** So many of a run's calls are kept for the questions at its end. */
+    private static final int[] QUESTIONS = {480, 300, 150, 60};
     private static final int MOST_WRONG = 20;
     /** Calls that spread poison and use it; the others would seldom find any if all came as often. */
     private static final String[] FREQUENT = {
@@ -24,6 +27,7 @@ public final class ModelTest {
     private static final int[] ODD = {-1, 4, 8, 16, 17, 31, 32, 33, 65535, 65536, Integer.MIN_VALUE, Integer.MAX_VALUE, -6, 0};
 
     private static long seed;
+    private static int callsLeft;
 
     public static void main(String[] args) throws IllegalAccessException {
         List<Method> methods = new ArrayList<>();
@@ -44,18 +48,16 @@ public final class ModelTest {
         PoisonedMemory memory = new PoisonedMemory();
         Model model = new Model();
         String pending = "";
-        boolean isTyped = false;
-        for (int call = 0; call < CALLS && CHECK.wrong() < MOST_WRONG; call++) {
-            String where = "run " + run + ", call " + call + ": ";
+        callsLeft = CALLS;
+        while (callsLeft > QUESTIONS[run % QUESTIONS.length] && CHECK.wrong() < MOST_WRONG) {
+            String where = "run " + run + ", " + callsLeft + " calls left: ";
             if (!pending.isEmpty()) {
                 compare(where, memory, model, find(methods, "append"), pending.charAt(0));
                 pending = pending.substring(1);
-                isTyped = pending.isEmpty();
+                if (pending.isEmpty()) {
+                    compare(where, memory, model, find(methods, "stopsAt"));
+                }
                 continue;
-            }
-            if (isTyped) {
-                compare(where, memory, model, find(methods, "stopsAt"));
-                isTyped = false;
             }
             Method method = next(5) > 0 ? find(methods, FREQUENT[next(FREQUENT.length)]) : methods.get(next(methods.size()));
             compare(where, memory, model, method, arguments(method, run % 3));
@@ -63,11 +65,8 @@ public final class ModelTest {
                 compare(where, memory, model, find(methods, "clearText"));
                 pending = someText();
             }
-            if (call % 8 == 0) {
-                compareAll(where, memory, model, methods);
-            }
         }
-        compareAll("run " + run + ", at the end: ", memory, model, methods);
+        compareQuestions("run " + run + ", at its end: ", memory, model, methods);
     }
 
     private static Method find(List<Method> methods, String name) {
@@ -81,6 +80,10 @@ public final class ModelTest {
 
     private static void compare(String where, PoisonedMemory memory, Model model, Method method, int... arguments)
             throws IllegalAccessException {
+        if (callsLeft == 0) {
+            return;
+        }
+        callsLeft--;
         String call = where + method.getName() + Arrays.toString(arguments);
         Object[] boxed = new Object[arguments.length];
         for (int i = 0; i < boxed.length; i++) {
@@ -172,21 +175,26 @@ public final class ModelTest {
         }
     }
 
-    private static void compareAll(String where, PoisonedMemory memory, Model model, List<Method> methods)
+    /** The questions about words and registers begin anywhere, since the calls that are left may not do for all. */
+    private static void compareQuestions(String where, PoisonedMemory memory, Model model, List<Method> methods)
             throws IllegalAccessException {
         for (String name : List.of("injections", "faults", "healed", "widest", "atRisk", "poisonShare",
             "poisonedIfScrubbed", "bestScrub", "stopsAt", "fault")) {
             compare(where, memory, model, find(methods, name));
         }
-        for (String name : List.of("value", "origin", "hops", "mirrorValue", "mirrorOrigin", "mode", "stopped", "source",
-            "poisoned", "carriers", "farthest")) {
-            for (int i = 0; i < 32; i++) {
-                compare(where, memory, model, find(methods, name), i);
-            }
-        }
-        for (String name : List.of("register", "registerOrigin", "registerHops", "log")) {
-            for (int i = 0; i < 32; i++) {
-                compare(where, memory, model, find(methods, name), i / 4, i % 4);
+        List<String> ofOne = List.of("value", "origin", "hops", "mirrorValue", "mirrorOrigin", "mode", "stopped", "source",
+            "poisoned", "carriers", "farthest");
+        List<String> ofTwo = List.of("register", "registerOrigin", "registerHops", "log");
+        int all = (ofOne.size() + ofTwo.size()) * 32;
+        int start = next(all);
+        for (int i = 0; i < all; i++) {
+            int question = (start + i) % all;
+            int name = question / 32;
+            int number = question % 32;
+            if (name < ofOne.size()) {
+                compare(where, memory, model, find(methods, ofOne.get(name)), number);
+            } else {
+                compare(where, memory, model, find(methods, ofTwo.get(name - ofOne.size())), number / 4, number % 4);
             }
         }
     }

@@ -263,24 +263,32 @@ public final class TextHistoryTest {
         CHECK.due("pages", x.mirrorValue(1), 3);
     }
 
+    /** Three objects for each action, since one alone would need more calls than the document allows. */
     private static void promise22UndoEachAction() {
         int actions = 17;
         for (int action = 0; action < actions; action++) {
-            PoisonedMemory x = new PoisonedMemory();
-            x.fill(4, 4, 700);
-            x.setMirror(1, true);
-            x.setMode(1, Check.SKIP);
-            Check.poisonRegister(x, 0, 1, 9);
-            Check.poisonRegister(x, 1, 1, 10);
-            x.store(1, 1, 11);
-            x.inject(4);
-            Check.type(x, "V00=8;I3");
-            String before = Check.stateOf(x);
-            CHECK.due("action " + action + " is no error", act(x, action), DUE[action]);
-            CHECK.due("action " + action + " changes the state", Check.stateOf(x).equals(before) ? 1 : 0, 0);
-            CHECK.due("undo of action " + action, x.undo(), 3);
-            CHECK.due("undo restores action " + action, Check.stateOf(x).equals(before) ? 1 : 0, 1);
+            String before = Check.stateOf(prepared());
+            PoisonedMemory changed = prepared();
+            CHECK.due("action " + action + " is no error", act(changed, action), DUE[action]);
+            CHECK.due("action " + action + " changes the state", Check.stateOf(changed).equals(before) ? 1 : 0, 0);
+            PoisonedMemory restored = prepared();
+            act(restored, action);
+            CHECK.due("undo of action " + action, restored.undo(), 3);
+            CHECK.due("undo restores action " + action, Check.stateOf(restored).equals(before) ? 1 : 0, 1);
         }
+    }
+
+    private static PoisonedMemory prepared() {
+        PoisonedMemory x = new PoisonedMemory();
+        x.fill(4, 4, 700);
+        x.setMirror(1, true);
+        x.setMode(1, Check.SKIP);
+        Check.poisonRegister(x, 0, 1, 9);
+        Check.poisonRegister(x, 1, 1, 10);
+        x.store(1, 1, 11);
+        x.inject(4);
+        Check.type(x, "V00=8;I3");
+        return x;
     }
 
     private static final int[] DUE = {3, 1, 1, 0, 1, 0, 1, 0, 0, 188, 1, 1, 0, 0, Check.FAULT, Check.FAULT, 2};
