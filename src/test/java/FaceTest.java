@@ -1,7 +1,10 @@
+import java.io.IOException;
 import java.lang.reflect.Constructor;
 import java.lang.reflect.Field;
 import java.lang.reflect.Method;
 import java.lang.reflect.Modifier;
+import java.nio.file.Files;
+import java.nio.file.Path;
 import java.util.ArrayList;
 import java.util.List;
 import java.util.TreeSet;
@@ -24,7 +27,7 @@ public final class FaceTest {
         "NO_SUCH", "BAD_VALUE", "BAD_TEXT", "TOO_MANY", "NOT_POSSIBLE", "NONE", "FAULT"
     };
 
-    public static void main(String[] args) throws IllegalAccessException {
+    public static void main(String[] args) throws IOException, IllegalAccessException {
         Class<?> face = PoisonedMemory.class;
         CHECK.due("public and final", face.getModifiers(), Modifier.PUBLIC | Modifier.FINAL);
         checkMethods(face);
@@ -34,7 +37,26 @@ public final class FaceTest {
         CHECK.due("public", constructors[0].getModifiers(), Modifier.PUBLIC);
         CHECK.due("without parameters", constructors[0].getParameterCount(), 0);
         checkInnerClasses(face);
+        checkDocument();
         CHECK.finish();
+    }
+
+    /** Each line of the document's face, with the names of its parameters, stands in the source in the same order. */
+    private static void checkDocument() throws IOException {
+        String section = Files.readString(Path.of("../shared/DOC.md")).split("## The public face")[1];
+        String source = Files.readString(Path.of("src/main/java/PoisonedMemory.java"));
+        int end = 0;
+        int members = 0;
+        for (String line : section.split("```")[1].lines().toList()) {
+            if (line.strip().startsWith("public ")) {
+                String wanted = line.contains("(") ? line.replace(");", ") {\n") : line + "\n";
+                int start = source.indexOf("\n" + wanted, end - 1);
+                CHECK.due("the source says, in its place: " + line.strip(), start >= 0 ? 1 : 0, 1);
+                end = start < 0 ? end : start + wanted.length();
+                members++;
+            }
+        }
+        CHECK.due("the class, its constants, its constructor and its methods", members, 2 + CONSTANTS.length + METHODS.length);
     }
 
     private static void checkMethods(Class<?> face) {
